@@ -36,7 +36,7 @@ final class Checks {
         return height;
     }
 
-    /** A channel that is OPEN at both ENDS; each side is two BLOCKS higher then, or one the other side. */
+    /** A channel that is OPEN at both ENDS; the first side is two BLOCKS higher then, the other one is one. */
     static int open(BridgeClients x, int first, boolean ordered) {
         int channel = x.init(first, ordered, 7);
         due("meet", x.meet(channel, 7, bring(x, first)), 3);

@@ -190,9 +190,17 @@ public final class LedgersTest {
             Checks.due("number of the channel", channel, 0);
             Checks.due("first message", x.send(channel, 0, 1, 1, 0, 600, 100), 0);
             Checks.due("second message", x.send(channel, 1, 1, 6, 1, 400, 100), 1);
+            for (int message = 0; message < 2; message++) {
+                Checks.due("it STANDS", x.message(message, 8), 1);
+                Checks.due("not received", x.message(message, 9), 0);
+                Checks.due("not back", x.message(message, 10), 0);
+            }
+            Checks.due("no old vouchers", x.vouchers(channel, 1, 1), 0);
             int height = Checks.bring(x, 0);
             Checks.due("receive", x.receive(0, height), 1);
+            Checks.due("vouchers", x.vouchers(channel, 1, 1), 600);
             Checks.due("receive", x.receive(1, Checks.bring(x, 1)), 0);
+            Checks.due("acknowledge", x.acknowledge(1, Checks.bring(x, 0)), 0);
             Checks.due("close", x.close(channel, 0), 1);
             Checks.freeze(x, 1, height);
             Checks.due("clear", x.clear(), 2);

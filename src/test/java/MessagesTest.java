@@ -193,9 +193,10 @@ public final class MessagesTest {
         int height = Checks.bring(x, 0);
         Checks.due("TRY", x.receive(0, height), Checks.STATE);
         Checks.due("confirm", x.confirm(0, height), 3);
-        Checks.due("state before frozen", x.close(0, 1), 1);
-        Checks.freeze(x, 1, height);
+        Checks.due("close", x.close(0, 1), 1);
         Checks.due("CLOSED", x.receive(0, height), Checks.STATE);
+        Checks.freeze(x, 1, height);
+        Checks.due("state before frozen", x.receive(0, height), Checks.STATE);
         senderMayBeClosed();
     }
 
