@@ -93,7 +93,7 @@ final class Scenes {
         }
     }
 
-    /** What proofs answer in the next BLOCK: this shows what no question does. */
+    /** What proofs answer in the next BLOCK, of all channels and the first messages: this shows what no question does. */
     private static List<Integer> future(BridgeClients x) {
         List<Integer> seen = new ArrayList<>();
         int[] heights = new int[2];
@@ -110,8 +110,10 @@ final class Scenes {
                 seen.add(x.meet(channel, 7, height));
                 seen.add(x.agree(channel, height));
                 seen.add(x.confirm(channel, height));
-                seen.add(x.shut(channel, 0, height));
-                seen.add(x.stepAt(channel, 1, height));
+                for (int side = 0; side < 2; side++) {
+                    seen.add(x.shut(channel, side, height));
+                    seen.add(x.stepAt(channel, side, height));
+                }
             }
             for (int message = 0; message < MESSAGES_THAT_GO_ON; message++) {
                 seen.add(x.receive(message, height));
