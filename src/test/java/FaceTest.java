@@ -38,18 +38,24 @@ public final class FaceTest {
 
     private static void methods() {
         Set<String> seen = new TreeSet<>();
-        Set<String> names = new TreeSet<>();
         for (Method method : BridgeClients.class.getDeclaredMethods()) {
             if (Modifier.isPublic(method.getModifiers())) {
                 seen.add(textOf(method));
-                names.add(method.getName());
                 so(method + " answers an int", method.getReturnType() == int.class);
                 so(method + " is not static", !Modifier.isStatic(method.getModifiers()));
             }
         }
         so("the methods " + seen, seen.equals(new TreeSet<>(Arrays.asList(METHODS))));
-        for (Method method : BridgeClients.class.getDeclaredMethods()) {
-            if (!Modifier.isPublic(method.getModifiers())) {
+        hidden(BridgeClients.class);
+    }
+
+    private static void hidden(Class<?> type) {
+        Set<String> names = new TreeSet<>();
+        for (String method : METHODS) {
+            names.add(method.substring(0, method.indexOf('(')));
+        }
+        for (Method method : type.getDeclaredMethods()) {
+            if (type != BridgeClients.class || !Modifier.isPublic(method.getModifiers())) {
                 so(method + " is private", Modifier.isPrivate(method.getModifiers()));
                 so(method + " has a name of its own", !names.contains(method.getName()));
             }
@@ -84,6 +90,7 @@ public final class FaceTest {
         for (Class<?> inside : BridgeClients.class.getDeclaredClasses()) {
             so(inside + " is private and static",
                 Modifier.isPrivate(inside.getModifiers()) && Modifier.isStatic(inside.getModifiers()));
+            hidden(inside);
         }
     }
 }

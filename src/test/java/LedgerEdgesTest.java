@@ -21,6 +21,7 @@ public final class LedgerEdgesTest {
         clearOfFrozenClients();
         clearLeavesNoOldMessage();
         clearLeavesNoOldEnd();
+        theLastCallThatIsPromised();
         for (int grown = 0; grown < 2; grown++) {
             new LedgerEdgesTest(grown).ofOneSide();
         }
@@ -451,5 +452,42 @@ public final class LedgerEdgesTest {
         });
         Scenes.same("after received ones", sent, Scenes.then(ended, sent));
         Scenes.same("after timed out ones", sent, Scenes.then(timedOut, sent));
+    }
+
+    // ---- the 512th call
+
+    /** All that there is room for is there at once, after 488 calls. */
+    private static void everyRoomIsFull(BridgeClients x) {
+        for (int channel = 0; channel < 4; channel++) {
+            Checks.quiet("number", Checks.open(x, 0, channel % 2 == 0), channel);
+        }
+        for (int message = 0; message < 60; message++) {
+            Checks.quiet("number", x.send(message % 4, message % 2, message % 4, 7, message % 2, 50, 200), message);
+        }
+        ticks(0, 192).on(x);
+        ticks(1, 196).on(x);
+    }
+
+    private static void theLastCallThatIsPromised() {
+        Scenes.Play refusedOften = Scenes.then(LedgerEdgesTest::everyRoomIsFull, x -> {
+            for (int i = 0; i < 4; i++) {
+                Checks.due("the last rooms, tick", x.tick(i % 2), Checks.ROOM);
+                Checks.due("the last rooms, init", x.init(i % 2, true, 7), Checks.ROOM);
+                Checks.due("the last rooms, send", x.send(i, i % 2, 0, 0, i % 2, 1, 200), Checks.ROOM);
+                Checks.due("the last rooms, follow", x.follow(i % 2, 199, i / 2), i < 2 ? 1 : 2);
+                Checks.due("the last rooms, message", x.message(59 - i, 8), 1);
+            }
+        });
+        Scenes.Play asked = Scenes.then(refusedOften, x -> {
+            Checks.due("call 509", x.count(0), 200);
+            Checks.due("call 510", x.count(1), 200);
+            Checks.due("call 511", x.count(4), 60);
+        });
+        Scenes.answers("call 512, count", asked, x -> x.count(3), 60);
+        Scenes.answers("call 512, stepAt", asked, x -> x.stepAt(3, 0, 200), 3);
+        Scenes.answers("call 512, sum", asked, x -> x.sum(0, 0), 2500);
+        Scenes.answers("call 512, renew", asked, x -> x.renew(1), 9);
+        Scenes.answers("call 512, close", asked, x -> x.close(3, 1), 1);
+        Scenes.answers("call 512, clear", asked, BridgeClients::clear, 60);
     }
 }

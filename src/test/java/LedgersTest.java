@@ -23,10 +23,11 @@ public final class LedgersTest {
     }
 
     private static void newObject() {
-        asAtFirst(new BridgeClients());
+        asAtFirst(new BridgeClients(), 200);
     }
 
-    private static void asAtFirst(BridgeClients x) {
+    /** How many heights are asked for is told, as an object is promised for 512 calls alone. */
+    private static void asAtFirst(BridgeClients x, int heights) {
         for (int what = 0; what < 5; what++) {
             Checks.due("count " + what, x.count(what), 0);
         }
@@ -34,7 +35,7 @@ public final class LedgersTest {
             for (int what = 0; what < 3; what++) {
                 Checks.due("client " + what, x.client(side, what), 0);
             }
-            for (int height = 1; height <= 200; height++) {
+            for (int height = 1; height <= heights; height++) {
                 Checks.due("follows " + height, x.follows(side, height), 0);
             }
             for (int account = 0; account < 4; account++) {
@@ -204,7 +205,7 @@ public final class LedgersTest {
             Checks.due("close", x.close(channel, 0), 1);
             Checks.freeze(x, 1, height);
             Checks.due("clear", x.clear(), 2);
-            asAtFirst(x);
+            asAtFirst(x, 5);
         }
         Checks.due("a new channel", x.init(1, false, 2), 0);
         int[] due = {1, 2, 0, 0, 0, 0, 0};

@@ -414,6 +414,13 @@ public final class MessageEdgesTest {
             Checks.bring(x, from);
         });
         is("the other END has an order of its own", back, x -> x.acknowledge(2, sentIn() + 1), 1);
+        Scenes.Play second = Scenes.then(this::sent, x -> {
+            int channel = Checks.open(x, from, true);
+            Checks.quiet("send", x.send(channel, from, 0, 0, from, 1, 200), 2);
+            Checks.quiet("receive", x.receive(2, Checks.bring(x, from)), 1);
+            Checks.bring(x, at);
+        });
+        is("another channel has an order of its own", second, x -> x.acknowledge(2, x.count(at)), 1);
     }
 
     private void acknowledgeFailed() {

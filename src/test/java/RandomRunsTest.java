@@ -1,10 +1,15 @@
+import java.util.ArrayList;
+import java.util.List;
+
 /**
- * Long runs of mixed calls, each answer compared with PlainBridge's. After each call that may change
- * something all that can be asked is asked, so a refusal that changes anything is seen, too.
+ * Runs of mixed calls, each answer compared with PlainBridge's, up to the 512th call of an object. At
+ * many places of a run all that can be asked is asked: of objects made anew and played to that place,
+ * as an object is promised for 512 calls alone.
  */
 public final class RandomRunsTest {
-    private static final int RUNS = 600, CALLS = 512;
-    private static final int CHANGING = 14;
+    private static final int RUNS = 1200, CALLS = 512;
+    private static final int LOOK_EVERY = 16, LOOK_UNTIL = 400;
+    private static final int CHANGING = 14, QUESTIONS = 9;
     private static final String[] NAMES = {"tick", "follow", "renew", "init", "meet", "agree", "confirm", "close",
         "shut", "send", "receive", "acknowledge", "timeout", "clear"};
     /** How often each call is made, of the sum of all. */
@@ -13,12 +18,17 @@ public final class RandomRunsTest {
     /** How often each call had each answer: 0 for no refusal, else the refusal without its sign. */
     private static final int[][] SEEN = new int[CHANGING][11];
 
+    private record Question(String text, Scenes.Call call, int due) {
+    }
+
     private final BridgeClients x = new BridgeClients();
+    private final List<Scenes.Call> made = new ArrayList<>();
+    private final List<Question> questions = new ArrayList<>();
     private PlainBridge plain = new PlainBridge();
     private final int run;
     private long seed;
     private boolean wild;
-    private String call = "";
+    private String last = "";
 
     private RandomRunsTest(int run) {
         this.run = run;
@@ -52,6 +62,57 @@ public final class RandomRunsTest {
         }
     }
 
+    // ---- a run
+
+    private void go() {
+        if (run % 3 != 0) {
+            openBoth(0, run % 2 == 0);
+            openBoth(1, run % 4 == 0);
+        }
+        for (int i = 0; run % 10 == 9 && i < 190; i++) {
+            makeTick(run % 2);
+        }
+        while (made.size() < CALLS && !Checks.isAnyWrong()) {
+            wild = below(40) == 0;
+            if (below(10) == 0) {
+                askOne(below(QUESTIONS));
+            } else {
+                int kind = run % 5 == 0 && below(200) == 0 ? 13 : kind();
+                int due = make(kind);
+                SEEN[kind][due < 0 ? -due : 0]++;
+            }
+            if (made.size() % LOOK_EVERY == 0 && made.size() <= LOOK_UNTIL) {
+                lookAround();
+            }
+        }
+    }
+
+    /** Random calls alone seldom come to a channel that is OPEN at both ENDS. */
+    private void openBoth(int first, boolean ordered) {
+        makeInit(first, ordered, 7);
+        int channel = plain.first.size() - 1;
+        bring(first);
+        makeMeet(channel, 3, plain.height(first));
+        bring(1 - first);
+        makeAgree(channel, plain.height(1 - first));
+        bring(first);
+        makeConfirm(channel, plain.height(first));
+    }
+
+    private void bring(int side) {
+        makeTick(side);
+        makeFollow(1 - side, plain.height(side), 0);
+    }
+
+    private int same(String text, Scenes.Call call, int due) {
+        last = text;
+        made.add(call);
+        Checks.due("run " + run + ", call " + made.size() + ": " + text, call.on(x), due);
+        return due;
+    }
+
+    // ---- what is picked
+
     private int below(int bound) {
         seed = seed * 6364136223846793005L + 1442695040888963407L;
         return (int) ((seed >>> 33) % bound);
@@ -68,58 +129,25 @@ public final class RandomRunsTest {
         return least + below(Math.max(most - least + 1, 1));
     }
 
+    private int pickChannel() {
+        return pick(0, plain.first.size() - 1);
+    }
+
+    private int pickMessage() {
+        int size = plain.sent.size();
+        return below(3) == 0 ? pick(0, size - 1) : pick(Math.max(size - 5, 0), size - 1);
+    }
+
     /** A height of the other side, by which something may be PROVED at this one. */
-    private int height(int side) {
+    private int pickProof(int side) {
         if (below(4) == 0) {
             return pick(1, plain.height(1 - side & 1));
         }
         return plain.greatest(side & 1) - below(2);
     }
 
-    private int newHeight(int side) {
+    private int pickNewHeight(int side) {
         return below(4) == 0 ? pick(1, plain.height(side & 1)) : plain.height(side & 1) - below(2);
-    }
-
-    private void go() {
-        int begun = 0;
-        if (run % 3 != 0) {
-            begun = openBoth(0, run % 2 == 0) + openBoth(1, run % 4 == 0);
-        }
-        if (run % 10 == 9) {
-            begun += tickOften(run % 2);
-        }
-        for (int i = begun; i < CALLS && !Checks.isAnyWrong(); i++) {
-            wild = below(40) == 0;
-            int kind = run % 5 == 0 && below(200) == 0 ? 13 : kind();
-            int want = make(kind);
-            SEEN[kind][want < 0 ? -want : 0]++;
-            askAll();
-        }
-    }
-
-    /** Random calls alone seldom come to a channel that is OPEN at both ENDS: how many calls it took. */
-    private int openBoth(int first, boolean ordered) {
-        same("init", x.init(first, ordered, 7), plain.init(first, ordered, 7));
-        int channel = plain.first.size() - 1;
-        bring(first);
-        makeMeet(channel, 3, plain.height(first));
-        bring(1 - first);
-        makeAgree(channel, plain.height(1 - first));
-        bring(first);
-        makeConfirm(channel, plain.height(first));
-        return 10;
-    }
-
-    private void bring(int side) {
-        same("tick", x.tick(side), plain.tick(side));
-        makeFollow(1 - side, plain.height(side), 0);
-    }
-
-    private int tickOften(int side) {
-        for (int i = 0; i < 190; i++) {
-            same("tick", x.tick(side), plain.tick(side));
-        }
-        return 190;
     }
 
     private int kind() {
@@ -136,65 +164,61 @@ public final class RandomRunsTest {
         return kind;
     }
 
-    private int same(String made, int got, int want) {
-        call = made;
-        Checks.due("run " + run + ": " + made, got, want);
-        return want;
-    }
-
-    private int make(int kind) {
-        int side = pick(0, 1);
-        int channel = pick(0, plain.first.size() - 1);
-        switch (kind) {
-            case 0: return same("tick " + side, x.tick(side), plain.tick(side));
-            case 1: return makeFollow(side, newHeight(1 - side), below(40) == 0 ? pick(0, 9) : 0);
-            case 2: return same("renew " + side, x.renew(side), plain.renew(side));
-            case 3: return makeInit(side, pick(1, 7));
-            case 4: return makeMeet(channel, pick(1, 7), height(1 - beginner(channel)));
-            case 5: return makeAgree(channel, height(beginner(channel)));
-            case 6: return makeConfirm(channel, height(1 - beginner(channel)));
-            case 7: return same("close " + channel + " " + side, x.close(channel, side), plain.close(channel, side));
-            case 8: return makeShut(channel, side, height(side));
-            case 9: return makeSend(channel, side, pick(0, 3));
-            case 10: case 11: case 12: return makeOfMessage(kind, messageNumber());
-            default: return makeClear();
-        }
-    }
-
     private int beginner(int channel) {
         return channel >= 0 && channel < plain.first.size() ? plain.first.get(channel) : 0;
     }
 
-    private int messageNumber() {
-        int size = plain.sent.size();
-        return below(3) == 0 ? pick(0, size - 1) : pick(Math.max(size - 5, 0), size - 1);
+    // ---- calls that may change something
+
+    private int make(int kind) {
+        int side = pick(0, 1);
+        int channel = pickChannel();
+        switch (kind) {
+            case 0: return makeTick(side);
+            case 1: return makeFollow(side, pickNewHeight(1 - side), below(40) == 0 ? pick(0, 9) : 0);
+            case 2: return same("renew " + side, b -> b.renew(side), plain.renew(side));
+            case 3: return makeInit(side, below(2) == 0, pick(1, 7));
+            case 4: return makeMeet(channel, pick(1, 7), pickProof(1 - beginner(channel)));
+            case 5: return makeAgree(channel, pickProof(beginner(channel)));
+            case 6: return makeConfirm(channel, pickProof(1 - beginner(channel)));
+            case 7: return same("close " + channel + " " + side, b -> b.close(channel, side), plain.close(channel, side));
+            case 8: return makeShut(channel, side, pickProof(side));
+            case 9: return makeSend(channel, side, pick(0, 3));
+            case 10: case 11: case 12: return makeOfMessage(kind, pickMessage());
+            default: return makeClear();
+        }
+    }
+
+    private int makeTick(int side) {
+        return same("tick " + side, b -> b.tick(side), plain.tick(side));
     }
 
     private int makeFollow(int side, int height, int mark) {
-        return same("follow " + side + " " + height + " " + mark, x.follow(side, height, mark),
+        return same("follow " + side + " " + height + " " + mark, b -> b.follow(side, height, mark),
             plain.follow(side, height, mark));
     }
 
-    private int makeInit(int side, int offer) {
-        boolean ordered = below(2) == 0;
-        return same("init " + side + " " + offer, x.init(side, ordered, offer), plain.init(side, ordered, offer));
+    private int makeInit(int side, boolean ordered, int offer) {
+        return same("init " + side + " " + ordered + " " + offer, b -> b.init(side, ordered, offer),
+            plain.init(side, ordered, offer));
     }
 
     private int makeMeet(int channel, int offer, int height) {
-        return same("meet " + channel + " " + offer + " " + height, x.meet(channel, offer, height),
+        return same("meet " + channel + " " + offer + " " + height, b -> b.meet(channel, offer, height),
             plain.meet(channel, offer, height));
     }
 
     private int makeAgree(int channel, int height) {
-        return same("agree " + channel + " " + height, x.agree(channel, height), plain.agree(channel, height));
+        return same("agree " + channel + " " + height, b -> b.agree(channel, height), plain.agree(channel, height));
     }
 
     private int makeConfirm(int channel, int height) {
-        return same("confirm " + channel + " " + height, x.confirm(channel, height), plain.confirm(channel, height));
+        return same("confirm " + channel + " " + height, b -> b.confirm(channel, height),
+            plain.confirm(channel, height));
     }
 
     private int makeShut(int channel, int side, int height) {
-        return same("shut " + channel + " " + side + " " + height, x.shut(channel, side, height),
+        return same("shut " + channel + " " + side + " " + height, b -> b.shut(channel, side, height),
             plain.shut(channel, side, height));
     }
 
@@ -204,82 +228,178 @@ public final class RandomRunsTest {
         int amount = below(9) == 0 ? pick(1, 1000) : pick(1, 30);
         int until = below(8) == 0 ? pick(1, 200) : plain.height(1 - side & 1) + below(20);
         return same("send " + channel + " " + side + " " + account + " " + to + " " + coin + " " + amount + " " + until,
-            x.send(channel, side, account, to, coin, amount, until),
+            b -> b.send(channel, side, account, to, coin, amount, until),
             plain.send(channel, side, account, to, coin, amount, until));
     }
 
     private int makeOfMessage(int kind, int message) {
         boolean known = message >= 0 && message < plain.sent.size();
         int sender = known ? plain.sent.get(message).side : 0;
-        int height = height(kind == 10 ? 1 - sender : sender);
-        String made = NAMES[kind] + " " + message + " " + height;
+        int height = pickProof(kind == 10 ? 1 - sender : sender);
+        String text = NAMES[kind] + " " + message + " " + height;
         if (kind == 10) {
-            return same(made, x.receive(message, height), plain.receive(message, height));
+            return same(text, b -> b.receive(message, height), plain.receive(message, height));
         }
         if (kind == 11) {
-            return same(made, x.acknowledge(message, height), plain.acknowledge(message, height));
+            return same(text, b -> b.acknowledge(message, height), plain.acknowledge(message, height));
         }
-        return same(made, x.timeout(message, height), plain.timeout(message, height));
+        return same(text, b -> b.timeout(message, height), plain.timeout(message, height));
     }
 
     private int makeClear() {
-        int want = plain.sent.size();
+        int due = plain.sent.size();
         plain = new PlainBridge();
-        return same("clear", x.clear(), want);
+        return same("clear", BridgeClients::clear, due);
+    }
+
+    // ---- questions: one of them as a call of the run, or all of them
+
+    private void askOne(int kind) {
+        questions.clear();
+        int side = pick(0, 1);
+        switch (kind) {
+            case 0: askCount(pick(0, 4)); break;
+            case 1: askClient(side, pick(0, 2)); break;
+            case 2: askFollows(side, pick(1, 200)); break;
+            case 3: askEnd(pickChannel(), side, pick(0, 6)); break;
+            case 4: askStepAt(pickChannel(), side, pick(0, plain.height(side & 1))); break;
+            case 5: askMessage(pickMessage(), pick(0, 10)); break;
+            case 6: askBalance(side, pick(0, 3), pick(0, 1)); break;
+            case 7: askVouchers(pickChannel(), side, pick(0, 3)); break;
+            default: askSum(side, pick(0, 3)); break;
+        }
+        Question question = questions.get(0);
+        same(question.text, question.call, question.due);
+    }
+
+    private void lookAround() {
+        questions.clear();
+        askAll();
+        int atOnce = CALLS - made.size();
+        for (int from = 0; from < questions.size(); from += atOnce) {
+            BridgeClients again = playedAgain();
+            for (Question question : questions.subList(from, Math.min(from + atOnce, questions.size()))) {
+                check(question.text, question.call.on(again), question.due);
+            }
+        }
+        asMuchAsEver(playedAgain());
+    }
+
+    private BridgeClients playedAgain() {
+        BridgeClients again = new BridgeClients();
+        for (Scenes.Call call : made) {
+            call.on(again);
+        }
+        return again;
+    }
+
+    /** The text is made only when it is needed: most answers are right. */
+    private void check(String what, int got, int due) {
+        if (got != due) {
+            Checks.due("run " + run + ", call " + made.size() + ", after " + last + ": " + what, got, due);
+        }
     }
 
     private void askAll() {
         for (int what = -1; what <= 5; what++) {
-            check("count", x.count(what), plain.count(what));
+            askCount(what);
         }
         for (int side = -1; side <= 2; side++) {
-            askSide(side);
+            askAllOfSide(side);
             for (int channel = -1; channel <= plain.first.size(); channel++) {
-                askEnd(channel, side);
+                askAllOfEnd(channel, side);
             }
         }
         for (int message = -1; message <= plain.sent.size(); message++) {
             for (int what = -1; what <= 11; what++) {
-                check("message", x.message(message, what), plain.message(message, what));
+                askMessage(message, what);
             }
-        }
-        for (int coin = 0; coin < 2; coin++) {
-            check("as much of the coin as ever", x.sum(coin, 0) + x.sum(coin, 1), 4000);
-            check("an ESCROW for all that is out", x.sum(coin, 2) + x.sum(coin, 3), x.sum(coin, 1));
         }
     }
 
-    private void askSide(int side) {
-        for (int what = -1; what <= 3; what++) {
-            check("client", x.client(side, what), plain.client(side, what));
-        }
+    private void askAllOfSide(int side) {
         for (int what = -1; what <= 4; what++) {
-            check("sum", x.sum(side, what), plain.sum(side, what));
+            askClient(side, what);
+            askSum(side, what);
         }
-        int height = below(202);
-        check("follows", x.follows(side, height), plain.follows(side, height));
+        askFollows(side, below(202));
         for (int account = -1; account <= 4; account++) {
             for (int coin = -1; coin <= 2; coin++) {
-                check("balance", x.balance(side, account, coin), plain.balance(side, account, coin));
+                askBalance(side, account, coin);
             }
         }
     }
 
-    private void askEnd(int channel, int side) {
+    private void askAllOfEnd(int channel, int side) {
         for (int what = -1; what <= 7; what++) {
-            check("end", x.end(channel, side, what), plain.end(channel, side, what));
+            askEnd(channel, side, what);
         }
         for (int account = -1; account <= 4; account++) {
-            check("vouchers", x.vouchers(channel, side, account), plain.vouchers(channel, side, account));
+            askVouchers(channel, side, account);
         }
-        int height = pick(0, plain.height(side & 1));
-        check("stepAt", x.stepAt(channel, side, height), plain.stepAt(channel, side, height));
+        askStepAt(channel, side, pick(0, plain.height(side & 1)));
     }
 
-    /** The text is made only when it is needed: most answers are right. */
-    private void check(String what, int got, int want) {
-        if (got != want) {
-            Checks.due("run " + run + ", after " + call + ": " + what, got, want);
+    private void askCount(int what) {
+        questions.add(new Question("count", b -> b.count(what), plain.count(what)));
+    }
+
+    private void askClient(int side, int what) {
+        questions.add(new Question("client", b -> b.client(side, what), plain.client(side, what)));
+    }
+
+    private void askFollows(int side, int height) {
+        questions.add(new Question("follows", b -> b.follows(side, height), plain.follows(side, height)));
+    }
+
+    private void askEnd(int channel, int side, int what) {
+        questions.add(new Question("end", b -> b.end(channel, side, what), plain.end(channel, side, what)));
+    }
+
+    private void askStepAt(int channel, int side, int height) {
+        questions.add(new Question("stepAt", b -> b.stepAt(channel, side, height), plain.stepAt(channel, side, height)));
+    }
+
+    private void askMessage(int message, int what) {
+        questions.add(new Question("message", b -> b.message(message, what), plain.message(message, what)));
+    }
+
+    private void askBalance(int side, int account, int coin) {
+        questions.add(new Question("balance", b -> b.balance(side, account, coin), plain.balance(side, account, coin)));
+    }
+
+    private void askVouchers(int channel, int side, int account) {
+        questions.add(new Question("vouchers", b -> b.vouchers(channel, side, account),
+            plain.vouchers(channel, side, account)));
+    }
+
+    private void askSum(int coin, int what) {
+        questions.add(new Question("sum", b -> b.sum(coin, what), plain.sum(coin, what)));
+    }
+
+    // ---- what holds in every state, whatever PlainBridge says
+
+    private void asMuchAsEver(BridgeClients again) {
+        for (int coin = 0; coin < 2; coin++) {
+            int escrows = again.sum(coin, 1);
+            check("as much of the coin as ever", again.sum(coin, 0) + escrows, 4000);
+            check("an ESCROW for all that is out", again.sum(coin, 2) + again.sum(coin, 3), escrows);
+            for (int channel = 0; channel < plain.first.size(); channel++) {
+                check("the ESCROW always has as much", escrowLeft(again, channel, coin), 0);
+            }
         }
+    }
+
+    /** What an ESCROW has beyond the VOUCHERS and the messages that it stands for. */
+    private int escrowLeft(BridgeClients again, int channel, int coin) {
+        int left = again.end(channel, coin, 3);
+        for (int account = 0; account < 4; account++) {
+            left -= again.vouchers(channel, 1 - coin, account);
+        }
+        for (PlainBridge.Sent sent : plain.sent) {
+            boolean underWay = sent.outcome != 1 && !sent.cameBack;
+            left -= underWay && sent.channel == channel && sent.coin == coin ? sent.amount : 0;
+        }
+        return left;
     }
 }
