@@ -1,5 +1,4 @@
 import java.io.IOException;
-import java.io.StringWriter;
 import java.lang.reflect.Field;
 import java.lang.reflect.Method;
 import java.lang.reflect.Modifier;
@@ -86,26 +85,27 @@ public final class ReadmeTest {
 
     private static int[] run(String source) throws Exception {
         Path out = Files.createTempDirectory("readme");
-        JavaCompiler compiler = ToolProvider.getSystemJavaCompiler();
+        try (URLClassLoader loader = new URLClassLoader(new URL[] {out.toUri().toURL()})) {
+            boolean compiled = isCompiled(source, out);
+            so("the example compiles", compiled);
+            return compiled ? (int[]) loader.loadClass("Example").getMethod("all").invoke(null)
+                : new int[EXAMPLE.length + AFTER.length];
+        } finally {
+            Files.deleteIfExists(out.resolve("Example.class"));
+            Files.deleteIfExists(out);
+        }
+    }
+
+    private static boolean isCompiled(String source, Path out) {
         JavaFileObject file = new SimpleJavaFileObject(URI.create("mem:///Example.java"), JavaFileObject.Kind.SOURCE) {
             @Override
             public CharSequence getCharContent(boolean ignoreEncodingErrors) {
                 return source;
             }
         };
-        StringWriter told = new StringWriter();
+        JavaCompiler compiler = ToolProvider.getSystemJavaCompiler();
         List<String> options = List.of("-d", out.toString(), "-cp", System.getProperty("java.class.path"));
-        boolean compiled = compiler.getTask(told, null, null, options, null, List.of(file)).call();
-        so("the example compiles: " + told, compiled);
-        if (!compiled) {
-            return new int[EXAMPLE.length + AFTER.length];
-        }
-        try (URLClassLoader loader = new URLClassLoader(new URL[] {out.toUri().toURL()})) {
-            return (int[]) loader.loadClass("Example").getMethod("all").invoke(null);
-        } finally {
-            Files.deleteIfExists(out.resolve("Example.class"));
-            Files.deleteIfExists(out);
-        }
+        return compiler.getTask(null, null, null, options, null, List.of(file)).call();
     }
 
     // ---- the tables
